@@ -359,10 +359,8 @@ public final class LandTaken {
 
     private void takeReadyCells(Order order) {
         int number = orderCount - 1;
-        if (!order.isBegun) {
-            order.isBegun = true;
-            land.takeLine(NONE, number);
-        }
+        // Due at the first entry alone; a later one finds these cells taken by this order, and changes nothing.
+        land.takeLine(NONE, number);
         for (int k = 0; k < order.caseCount; k++) {
             Case one = order.caseAt(k);
             if (one != null && one.isReady()) {
@@ -376,7 +374,7 @@ public final class LandTaken {
         for (int k = 0; k < order.caseCount; k++) {
             Case one = order.caseAt(k);
             if (one != null && one.isReady() && isField(one.fieldNumber)) {
-                value(one, fields[one.fieldNumber]);
+                assess(one, fields[one.fieldNumber]);
                 share(one, fields[one.fieldNumber]);
                 one.enterOn(today, rates[RATE_INTEREST]);
                 entered++;
@@ -385,7 +383,7 @@ public final class LandTaken {
         return entered;
     }
 
-    private void value(Case one, Field of) {
+    private void assess(Case one, Field of) {
         int f = one.fieldNumber;
         split.find(land, f, of.housePlace);
         one.landWorth = land.worthInLine(f, pricesToday);
@@ -891,8 +889,6 @@ public final class LandTaken {
     private static final class Order {
         int madeOn;
         int noticeDays;
-        /** Whether an entry was: the first one takes the line's cells of no field. */
-        boolean isBegun;
         int caseCount;
         /** Rows behind caseCount are null, or of an order undone, kept to be used again. */
         final Case[] cases = new Case[MOST_FIELDS];
@@ -900,7 +896,6 @@ public final class LandTaken {
         void begin(int day, int notice) {
             madeOn = day;
             noticeDays = notice;
-            isBegun = false;
             caseCount = 0;
         }
 

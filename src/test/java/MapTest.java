@@ -135,7 +135,7 @@ public final class MapTest {
         C.due("the HOUSE on another CELL stays", houseIn(x), 16 + 1);
     }
 
-    /** Where the HOUSE of FIELD 0 stands, found out by the digest alone: an object like it with that house tells the same. */
+    /** Where the HOUSE of FIELD 0 stands, found out by the digest: an object like it with that house tells the same. */
     private static int houseIn(LandTaken x) {
         for (int place = NONE; place < 256; place++) {
             LandTaken y = copyOfMap(x);
