@@ -1,91 +1,115 @@
+import java.io.IOException;
+import java.nio.file.Files;
+import java.nio.file.Path;
+import java.util.List;
 import java.util.function.LongSupplier;
 
 /** What the tests share: they count answers that are not as due, and watch that a refused call changes nothing. */
 final class Checks {
+    static final int MIN = Integer.MIN_VALUE, MAX = Integer.MAX_VALUE;
+    private static final Path DOCUMENT = Path.of("../shared/DOC.md");
+
     private final String name;
+    private final String document;
+    private String sentence = "";
+    private int sentences;
     private int asked;
     private int wrong;
 
     Checks(String name) {
         this.name = name;
+        this.document = documentText();
+    }
+
+    private static String documentText() {
+        try {
+            return Files.exists(DOCUMENT) ? Files.readString(DOCUMENT) : null;
+        } catch (IOException e) {
+            return null;
+        }
+    }
+
+    /** The words of the document by which the answers to come are due; they have to stand there to the letter. */
+    void says(String words) {
+        sentence = words;
+        sentences++;
+        if (document != null && !document.contains(words)) {
+            wrong++;
+            tell("the document does not say this");
+        }
+    }
+
+    private void tell(String what) {
+        System.out.println(name + ": " + what + (sentence.isEmpty() ? "" : " [" + sentence + "]"));
     }
 
     void due(String call, long got, long want) {
         asked++;
         if (got != want) {
             wrong++;
-            System.out.println(name + ": " + call + " answered " + got + ", due is " + want);
+            tell(call + " answered " + got + ", due is " + want);
         }
+    }
+
+    /** The answer of the call that the run made last. */
+    void due(Run x, long got, long want) {
+        due(x.last(), got, want);
+    }
+
+    /** The answer of the call that the run made last, and what it shows. */
+    void due(Run x, String shows, long got, long want) {
+        due(shows + ": " + x.last(), got, want);
     }
 
     void holds(String what, boolean is) {
         due(what, is ? 1 : 0, 1);
     }
 
-    /** The call answers the refusal, and all that can be asked of the object stays as it was. */
-    void refused(LandTaken x, String call, long want, LongSupplier asks) {
-        String before = whole(x);
-        due(call, asks.getAsLong(), want);
-        asked++;
-        if (!whole(x).equals(before)) {
-            wrong++;
-            System.out.println(name + ": " + call + " was refused and changed something");
+    /** What told() tells of a CASE, from a first number on. */
+    void told(Run x, int o, int k, int first, long... want) {
+        for (int i = 0; i < want.length; i++) {
+            due(x, x.told(o, k, first + i), want[i]);
         }
     }
 
+    void refused(Run x, long want, LongSupplier call) {
+        refused(x, "a refusal", want, call);
+    }
+
+    /** The call answers the refusal, and all that can be found out of the object is as it was ahead of it. */
+    void refused(Run x, String shows, long want, LongSupplier call) {
+        int ahead = x.size();
+        long got = call.getAsLong();
+        due(x, shows, got, want);
+        due("calls made by one refusal", x.size() - ahead, 1);
+        List<String> before = Watch.of(x, ahead, x.room());
+        List<String> behind = Watch.of(x, ahead + 1, x.room());
+        asked++;
+        if (!before.equals(behind)) {
+            wrong++;
+            tell(x.last() + " was refused and changed something: " + firstOther(before, behind));
+        }
+    }
+
+    private static String firstOther(List<String> before, List<String> behind) {
+        for (int i = 0; i < Math.min(before.size(), behind.size()); i++) {
+            if (!before.get(i).equals(behind.get(i))) {
+                return before.get(i) + " without it, " + behind.get(i) + " with it";
+            }
+        }
+        return "more is told";
+    }
+
     void end() {
-        System.out.println(name + ": " + asked + " answers, " + wrong + " not as due");
+        System.out.println(name + ": " + (sentences == 0 ? "" : sentences + " sentences, ") + asked + " answers, "
+                + wrong + " not as due");
         if (wrong != 0) {
             System.exit(1);
         }
     }
 
-    /** All that an object tells; prices and rights are not in its digest. */
-    static String whole(LandTaken x) {
-        StringBuilder text = new StringBuilder();
-        text.append(x.digest());
-        for (int what = 0; what < 8; what++) {
-            text.append(' ').append(x.count(what));
-        }
-        for (int soil = 0; soil < 4; soil++) {
-            for (int day = 0; day <= 60; day++) {
-                text.append(' ').append(x.costs(soil, day));
-            }
-            text.append(' ').append(x.costs(soil, 10000));
-        }
-        for (int f = 0; f < x.count(0); f++) {
-            text.append(" f").append(x.pieces(f));
-            for (int i = 0; i < x.pieces(f); i++) {
-                for (int what = 0; what < 4; what++) {
-                    text.append(' ').append(x.piece(f, i, what));
-                }
-            }
-        }
-        for (int o = 0; o < x.count(3); o++) {
-            for (int k = 0; x.told(o, k, 0) >= 0; k++) {
-                for (int r = 0; r < 4; r++) {
-                    text.append(' ').append(x.gets(o, k, r));
-                }
-            }
-        }
-        return text.toString();
-    }
-
-    /** A field f is laid over a row of cells, all of one soil. */
-    static void row(LandTaken x, int y, int from, int to, int f, int soil) {
-        for (int at = from; at <= to; at++) {
-            x.cell(at, y, f, soil);
-        }
-    }
-
-    /** An order over the cells given as x, y, x, y .., entered at once (the days of notice are 0 while it is made). */
-    static int takeNow(LandTaken x, int... cells) {
-        int notice = x.rate(4, 0);
-        for (int i = 0; i + 1 < cells.length; i += 2) {
-            x.line(cells[i], cells[i + 1], true);
-        }
-        x.make();
-        x.rate(4, notice);
-        return x.enter();
+    /** The numbers next to a range on both sides, and the farthest ones. */
+    static int[] beyond(int first, int last) {
+        return new int[] {first - 1, last + 1, MIN, MAX};
     }
 }

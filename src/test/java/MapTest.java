@@ -17,7 +17,7 @@ public final class MapTest {
     }
 
     private static void newObject() {
-        LandTaken x = new LandTaken();
+        Run x = new Run();
         C.due("new: look(0, 0, 0)", x.look(0, 0, 0), NONE);
         for (int what = 1; what < 5; what++) {
             C.due("new: look(0, 0, " + what + ")", x.look(0, 0, what), 0);
@@ -39,7 +39,7 @@ public final class MapTest {
     }
 
     private static void map() {
-        LandTaken x = new LandTaken();
+        Run x = new Run();
         C.due("map(16, 16)", x.map(16, 16), 256);
         C.due("map(1, 16)", x.map(1, 16), 16);
         C.due("map(3, 2)", x.map(3, 2), 6);
@@ -75,7 +75,7 @@ public final class MapTest {
         C.due("map anew: field()", x.field(), 0);
         x.cell(0, 0, 0, 0);
         C.due("map anew: no RIGHTS of an earlier FIELD", x.right(0, 2, 1), 1);
-        LandTaken y = new LandTaken();
+        Run y = new Run();
         y.map(3, 2);
         y.field();
         y.cell(0, 0, 0, 0);
@@ -86,7 +86,7 @@ public final class MapTest {
     }
 
     private static void field() {
-        LandTaken x = new LandTaken();
+        Run x = new Run();
         for (int f = 0; f < 12; f++) {
             C.due("field()", x.field(), f);
             C.due("count(0)", x.count(0), f + 1);
@@ -95,12 +95,12 @@ public final class MapTest {
         C.refused(x, "13th field()", FULL, x::field);
         C.due("FIELD 11 takes a RIGHT", x.right(11, 2, 5), 1);
         x.cell(0, 0, 11, 0);
-        Checks.takeNow(x, 0, 0);
+        x.takeNow(0, 0);
         C.refused(x, "field() with 12, once an ORDER was MADE", STATE, x::field);
     }
 
     private static void cell() {
-        LandTaken x = new LandTaken();
+        Run x = new Run();
         x.map(3, 2);
         x.field();
         x.field();
@@ -136,11 +136,12 @@ public final class MapTest {
     }
 
     /** Where the HOUSE of FIELD 0 stands, found out by the digest: an object like it with that house tells the same. */
-    private static int houseIn(LandTaken x) {
+    private static int houseIn(Run x) {
+        long want = x.again().digest();
         for (int place = NONE; place < 256; place++) {
-            LandTaken y = copyOfMap(x);
+            Run y = copyOfMap(x.again());
             if (place == NONE || y.house(0, place % 16, place / 16) == 1) {
-                if (y.digest() == x.digest()) {
+                if (y.digest() == want) {
                     return place;
                 }
             }
@@ -148,7 +149,7 @@ public final class MapTest {
         return -2;
     }
 
-    private static LandTaken copyOfMap(LandTaken x) {
+    private static Run copyOfMap(Run x) {
         int w = 0;
         int h = 0;
         while (x.look(w, 0, 0) != UNKNOWN) {
@@ -157,7 +158,7 @@ public final class MapTest {
         while (x.look(0, h, 0) != UNKNOWN) {
             h++;
         }
-        LandTaken y = new LandTaken();
+        Run y = new Run();
         y.map(w, h);
         for (int f = 0; f < x.count(0); f++) {
             y.field();
@@ -175,7 +176,7 @@ public final class MapTest {
     }
 
     private static void lane() {
-        LandTaken x = new LandTaken();
+        Run x = new Run();
         x.map(2, 2);
         x.field();
         x.cell(1, 1, 0, 2);
@@ -193,12 +194,12 @@ public final class MapTest {
     }
 
     private static void house() {
-        LandTaken x = new LandTaken();
+        Run x = new Run();
         x.map(3, 2);
         x.field();
         x.field();
-        Checks.row(x, 0, 0, 2, 0, 0);
-        Checks.row(x, 1, 0, 1, 1, 0);
+        x.row(0, 0, 2, 0, 0);
+        x.row(1, 0, 1, 1, 0);
         C.due("house", x.house(0, 2, 0), 1);
         C.due("house: its place", houseIn(x), 2);
         C.refused(x, "house(2, 0, 0)", UNKNOWN, () -> x.house(2, 0, 0));
@@ -212,7 +213,7 @@ public final class MapTest {
     }
 
     private static void right() {
-        LandTaken x = new LandTaken();
+        Run x = new Run();
         x.field();
         x.cell(0, 0, 0, 0);
         C.refused(x, "right(1, 1, 0)", UNKNOWN, () -> x.right(1, 1, 0));
@@ -231,12 +232,12 @@ public final class MapTest {
         C.refused(x, "right(0, 2, 1001), a fifth: OUTSIDE first", OUTSIDE, () -> x.right(0, 2, 1001));
         x.field();
         C.due("another FIELD has RIGHTS of its own", x.right(1, 2, 0), 1);
-        Checks.takeNow(x, 0, 0);
+        x.takeNow(0, 0);
         C.refused(x, "right(0, 2, 0), a fifth, once an ORDER was MADE: STATE first", STATE, () -> x.right(0, 2, 0));
     }
 
     private static void afterAnOrder() {
-        LandTaken x = new LandTaken();
+        Run x = new Run();
         x.map(2, 1);
         x.field();
         x.cell(0, 0, 0, 0);
@@ -252,7 +253,7 @@ public final class MapTest {
         mapIsShut(x);
     }
 
-    private static void mapIsShut(LandTaken x) {
+    private static void mapIsShut(Run x) {
         C.refused(x, "map(1, 1), shut", STATE, () -> x.map(1, 1));
         C.refused(x, "map(0, 1), shut: OUTSIDE first", OUTSIDE, () -> x.map(0, 1));
         C.refused(x, "field(), shut", STATE, x::field);

@@ -14,13 +14,13 @@ public final class MoneyTest {
     }
 
     /** Two FIELDS of two CELLS each, 1000 a CELL; an ORDER over one CELL of each, FIELD 1 OBJECTED to. */
-    private static LandTaken halfEntered(int interest) {
-        LandTaken x = new LandTaken();
+    private static Run halfEntered(int interest) {
+        Run x = new Run();
         x.map(2, 2);
         x.field();
         x.field();
-        Checks.row(x, 0, 0, 1, 0, 0);
-        Checks.row(x, 1, 0, 1, 1, 0);
+        x.row(0, 0, 1, 0, 0);
+        x.row(1, 0, 1, 1, 0);
         x.right(1, 2, 250);
         x.price(0, 0, 1000);
         x.rate(3, interest);
@@ -35,7 +35,7 @@ public final class MoneyTest {
     }
 
     private static void refusals() {
-        LandTaken x = halfEntered(100);
+        Run x = halfEntered(100);
         x.days(7);
         C.refused(x, "pay(1, 0, 1)", UNKNOWN, () -> x.pay(1, 0, 1));
         C.refused(x, "pay(-1, 0, 0): UNKNOWN first", UNKNOWN, () -> x.pay(-1, 0, 0));
@@ -53,18 +53,18 @@ public final class MoneyTest {
         C.due("pay(0, 1, 1)", x.pay(0, 1, 1), 1);
         C.due("pay(0, 0, 1000000000)", x.pay(0, 0, 1000000000L), 1000);
 
-        LandTaken y = halfEntered(0);
+        Run y = halfEntered(0);
         y.hear(1, true);
         C.refused(y, "pay(0, 1, 1), STRUCK OUT", STATE, () -> y.pay(0, 1, 1));
         C.due("pay for a CASE of an ORDER that is DONE", y.pay(0, 0, 1), 1);
-        LandTaken z = halfEntered(0);
+        Run z = halfEntered(0);
         C.due("pay for a CASE of an ORDER that is not DONE", z.pay(0, 0, 999), 999);
         y.line(1, 0, true);
         y.make();
         C.refused(y, "pay(1, 0, 1), NOTICED", STATE, () -> y.pay(1, 0, 1));
     }
 
-    private static void money(LandTaken x, long paid, long owed, long interest, long interestPaid) {
+    private static void money(Run x, long paid, long owed, long interest, long interestPaid) {
         C.due("paid of DUE", x.told(0, 0, 8), paid);
         C.due("OWED", x.told(0, 0, 9), owed);
         C.due("INTEREST not paid", x.told(0, 0, 10), interest);
@@ -72,7 +72,7 @@ public final class MoneyTest {
     }
 
     private static void interestFirst() {
-        LandTaken x = halfEntered(1000);
+        Run x = halfEntered(1000);
         money(x, 0, 1000, 0, 0);
         x.days(1);
         money(x, 0, 1000, 1, 0);
@@ -96,7 +96,7 @@ public final class MoneyTest {
     }
 
     private static void interestRoundedDownFromPaymentToPayment() {
-        LandTaken x = halfEntered(700);
+        Run x = halfEntered(700);
         x.days(1);
         money(x, 0, 1000, 0, 0);
         C.due("pay(0, 0, 1): INTEREST of 0.7 is 0", x.pay(0, 0, 1), 1);
@@ -114,7 +114,7 @@ public final class MoneyTest {
         money(x, 1, 999, 1, 1);
         x.days(1);
         money(x, 1, 999, 2, 1);
-        LandTaken y = halfEntered(700);
+        Run y = halfEntered(700);
         y.days(1);
         C.refused(y, "a payment refused does not end the days", OUTSIDE, () -> y.pay(0, 0, 0));
         y.days(1);
@@ -122,7 +122,7 @@ public final class MoneyTest {
     }
 
     private static void noInterestOfInterest() {
-        LandTaken x = halfEntered(10000);
+        Run x = halfEntered(10000);
         x.days(100);
         money(x, 0, 1000, 1000, 0);
         C.due("pay(0, 0, 1)", x.pay(0, 0, 1), 1);
@@ -134,7 +134,7 @@ public final class MoneyTest {
     }
 
     private static void told() {
-        LandTaken x = halfEntered(10000);
+        Run x = halfEntered(10000);
         long[] entered = {0, 4, 5, 1000, 0, 0, 0, 1000, 0, 1000, 0, 0, 1, 1000};
         long[] objected = {1, 1, 0, 0, 0, 0, 0, 0, 0, 0, 0, 0, 1, 0};
         x.rate(0, 0);
@@ -160,7 +160,7 @@ public final class MoneyTest {
     }
 
     private static void gets() {
-        LandTaken x = halfEntered(0);
+        Run x = halfEntered(0);
         C.due("gets(0, 1, 0): not ENTERED", x.gets(0, 1, 0), 0);
         C.due("gets(0, 0, 0): no RIGHTS", x.gets(0, 0, 0), UNKNOWN);
         C.due("gets(0, 1, 1)", x.gets(0, 1, 1), UNKNOWN);

@@ -20,12 +20,12 @@ public final class OrderTest {
     }
 
     /** Three FIELDS, a row each of four CELLS, of SOILS 0, 1, 2; a row of LANE, no FIELD, no FIELD, LANE below. */
-    private static LandTaken threeRows() {
-        LandTaken x = new LandTaken();
+    private static Run threeRows() {
+        Run x = new Run();
         x.map(4, 4);
         for (int f = 0; f < 3; f++) {
             x.field();
-            Checks.row(x, f, 0, 3, f, f);
+            x.row(f, 0, 3, f, f);
             x.price(f, 0, 100 * (f + 1));
         }
         x.lane(0, 3);
@@ -35,7 +35,7 @@ public final class OrderTest {
     }
 
     private static void line() {
-        LandTaken x = threeRows();
+        Run x = threeRows();
         C.due("line(1, 2, false)", x.line(1, 2, false), 0);
         C.due("line(1, 2, true)", x.line(1, 2, true), 0);
         C.due("line(1, 2, true) again", x.line(1, 2, true), 1);
@@ -68,7 +68,7 @@ public final class OrderTest {
     }
 
     private static void make() {
-        LandTaken x = threeRows();
+        Run x = threeRows();
         C.refused(x, "make() of an empty LINE", OUTSIDE, x::make);
         x.line(0, 3, true);
         x.line(1, 3, true);
@@ -99,7 +99,7 @@ public final class OrderTest {
     }
 
     private static void makeFull() {
-        LandTaken x = new LandTaken();
+        Run x = new Run();
         x.field();
         x.cell(0, 0, 0, 0);
         for (int o = 0; o < 60; o++) {
@@ -121,10 +121,10 @@ public final class OrderTest {
     }
 
     private static void object() {
-        LandTaken x = threeRows();
+        Run x = threeRows();
         C.refused(x, "object(0) without an ORDER", STATE, () -> x.object(0));
         C.refused(x, "object(-1) without an ORDER: STATE first", STATE, () -> x.object(-1));
-        Checks.row(x, 1, 0, 3, 1, 1);
+        x.row(1, 0, 3, 1, 1);
         x.line(0, 0, true);
         x.line(0, 1, true);
         x.line(0, 2, true);
@@ -151,7 +151,7 @@ public final class OrderTest {
     }
 
     private static void objectAndEnterOnTheSameDay() {
-        LandTaken x = threeRows();
+        Run x = threeRows();
         x.line(0, 0, true);
         x.line(0, 1, true);
         x.make();
@@ -164,7 +164,7 @@ public final class OrderTest {
     }
 
     private static void hear() {
-        LandTaken x = threeRows();
+        Run x = threeRows();
         C.refused(x, "hear(0, true) without an ORDER", STATE, () -> x.hear(0, true));
         C.refused(x, "hear(-1, true) without an ORDER: STATE first", STATE, () -> x.hear(-1, true));
         x.line(0, 0, true);
@@ -192,7 +192,7 @@ public final class OrderTest {
     }
 
     private static void enter() {
-        LandTaken x = threeRows();
+        Run x = threeRows();
         C.refused(x, "enter() without an ORDER", STATE, x::enter);
         x.line(0, 0, true);
         x.line(1, 0, true);
@@ -221,7 +221,7 @@ public final class OrderTest {
     }
 
     private static void enterInParts() {
-        LandTaken x = threeRows();
+        Run x = threeRows();
         x.line(0, 0, true);
         x.line(0, 1, true);
         x.line(0, 2, true);
@@ -256,7 +256,7 @@ public final class OrderTest {
     }
 
     private static void struckOutWhole() {
-        LandTaken x = threeRows();
+        Run x = threeRows();
         x.line(0, 0, true);
         x.line(0, 3, true);
         x.line(1, 3, true);
@@ -273,7 +273,7 @@ public final class OrderTest {
     }
 
     private static void undo() {
-        LandTaken x = threeRows();
+        Run x = threeRows();
         C.refused(x, "undo() without an ORDER", STATE, x::undo);
         x.rate(3, 10000);
         x.right(0, 1, 150);
@@ -299,7 +299,7 @@ public final class OrderTest {
         C.due("told(0, 0, 0)", x.told(0, 0, 0), UNKNOWN);
         C.due("pay(0, 0, 1)", x.pay(0, 0, 1), UNKNOWN);
         C.refused(x, "undo() again", STATE, x::undo);
-        C.due("the order behind it takes its number", Checks.takeNow(x, 1, 0), 1);
+        C.due("the order behind it takes its number", x.takeNow(1, 0), 1);
         C.due("told(0, 0, 8): nothing is paid", x.told(0, 0, 8), 0);
         C.due("told(0, 0, 11)", x.told(0, 0, 11), 0);
         C.due("told(0, 1, 0): one CASE", x.told(0, 1, 0), UNKNOWN);
@@ -307,11 +307,11 @@ public final class OrderTest {
     }
 
     private static void undoOneBehindTheOther() {
-        LandTaken x = threeRows();
+        Run x = threeRows();
         x.right(0, 1, 250);
-        Checks.takeNow(x, 0, 0, 0, 1, 0, 3);
-        Checks.takeNow(x, 1, 0);
-        Checks.takeNow(x, 2, 0, 3, 3);
+        x.takeNow(0, 0, 0, 1, 0, 3);
+        x.takeNow(1, 0);
+        x.takeNow(2, 0, 3, 3);
         C.due("gets(0, 0, 0)", x.gets(0, 0, 0), 100);
         C.due("gets(1, 0, 0)", x.gets(1, 0, 0), 100);
         C.due("gets(2, 0, 0)", x.gets(2, 0, 0), 50);
@@ -326,7 +326,7 @@ public final class OrderTest {
         C.due("look(0, 3, 3)", x.look(0, 3, 3), 1);
         C.due("count(4)", x.count(4), 1);
         C.due("told(1, 0, 8)", x.told(1, 0, 8), 22);
-        Checks.takeNow(x, 3, 0);
+        x.takeNow(3, 0);
         C.due("the DEBT: what is left of it", x.gets(2, 0, 0), 50);
         C.due("undo()", x.undo(), 0);
         C.due("undo()", x.undo(), 22);

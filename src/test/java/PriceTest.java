@@ -14,7 +14,7 @@ public final class PriceTest {
     }
 
     private static void price() {
-        LandTaken x = new LandTaken();
+        Run x = new Run();
         C.due("price(0, 7, 70)", x.price(0, 7, 70), 1);
         C.due("price(0, 3, 30)", x.price(0, 3, 30), 2);
         C.due("price(0, 5, 50)", x.price(0, 5, 50), 3);
@@ -40,7 +40,7 @@ public final class PriceTest {
     }
 
     private static void priceFull() {
-        LandTaken x = new LandTaken();
+        Run x = new Run();
         for (int i = 0; i < 20; i++) {
             C.due("price of day " + i, x.price(2, 40 - 2 * i, i), i + 1);
         }
@@ -53,7 +53,7 @@ public final class PriceTest {
     }
 
     private static void costs() {
-        LandTaken x = new LandTaken();
+        Run x = new Run();
         C.due("costs(0, 0)", x.costs(0, 0), 0);
         x.price(0, 0, 4);
         C.due("costs(0, 0) told", x.costs(0, 0), 4);
@@ -65,7 +65,7 @@ public final class PriceTest {
 
     private static void rate() {
         int[] most = {1000, 100000, 1000, 10000, 1000};
-        LandTaken x = new LandTaken();
+        Run x = new Run();
         for (int i = 0; i < 5; i++) {
             int k = i;
             C.due("rate(" + k + ", most)", x.rate(k, most[k]), k == 4 ? 28 : 0);
@@ -79,7 +79,7 @@ public final class PriceTest {
     }
 
     private static void days() {
-        LandTaken x = new LandTaken();
+        Run x = new Run();
         C.due("days(1)", x.days(1), 1);
         C.refused(x, "days(0)", OUTSIDE, () -> x.days(0));
         C.refused(x, "days(-1)", OUTSIDE, () -> x.days(-1));
@@ -95,7 +95,7 @@ public final class PriceTest {
     }
 
     private static void atAnyTime() {
-        LandTaken x = new LandTaken();
+        Run x = new Run();
         x.field();
         x.cell(0, 0, 0, 0);
         x.line(0, 0, true);

@@ -16,7 +16,7 @@ public final class TellTest {
     }
 
     private static void look() {
-        LandTaken x = new LandTaken();
+        Run x = new Run();
         x.map(3, 2);
         x.field();
         x.cell(2, 1, 0, 3);
@@ -28,7 +28,7 @@ public final class TellTest {
             C.due("look(2, 1, " + what + ")", x.look(2, 1, what), of21[what]);
             C.due("look(1, 0, " + what + ")", x.look(1, 0, what), of10[what]);
         }
-        Checks.takeNow(x, 2, 1);
+        x.takeNow(2, 1);
         C.due("look(2, 1, 3)", x.look(2, 1, 3), 1);
         C.due("look(2, 1, 0): of its FIELD still", x.look(2, 1, 0), 0);
         C.due("look(2, 1, 4)", x.look(2, 1, 4), 0);
@@ -41,7 +41,7 @@ public final class TellTest {
         C.due("look(MAX, MAX, 0)", x.look(Integer.MAX_VALUE, Integer.MAX_VALUE, 0), UNKNOWN);
     }
 
-    private static void piece(LandTaken x, int f, int i, int size, int first, int main, int way) {
+    private static void piece(Run x, int f, int i, int size, int first, int main, int way) {
         int[] want = {size, first, main, way};
         for (int what = 0; what < 4; what++) {
             C.due("piece(" + f + ", " + i + ", " + what + ")", x.piece(f, i, what), want[what]);
@@ -49,7 +49,7 @@ public final class TellTest {
     }
 
     private static void pieces() {
-        LandTaken x = new LandTaken();
+        Run x = new Run();
         x.map(4, 3);
         x.field();
         x.field();
@@ -81,7 +81,7 @@ public final class TellTest {
         C.due("piece(0, -1, 9): UNKNOWN first", x.piece(0, -1, 9), UNKNOWN);
         C.due("piece(0, 0, 4)", x.piece(0, 0, 4), OUTSIDE);
         C.due("piece(0, 0, -1)", x.piece(0, 0, -1), OUTSIDE);
-        Checks.takeNow(x, 0, 2, 2, 2);
+        x.takeNow(0, 2, 2, 2);
         C.due("pieces(0), some TAKEN", x.pieces(0), 4);
         piece(x, 0, 0, 2, 0, 1, 0);
         piece(x, 0, 2, 1, 16 + 2, 0, 0);
@@ -91,7 +91,7 @@ public final class TellTest {
     }
 
     private static void piecesOfWindingLand() {
-        LandTaken x = new LandTaken();
+        Run x = new Run();
         x.map(16, 16);
         x.field();
         int cells = 0;
@@ -116,13 +116,13 @@ public final class TellTest {
         x.map(3, 16);
         x.field();
         for (int y = 0; y < 16; y++) {
-            Checks.row(x, y, 0, 2, 0, 0);
+            x.row(y, 0, 2, 0, 0);
         }
         C.due("the whole of a small map", x.piece(0, 0, 0), 48);
     }
 
     private static void ways() {
-        LandTaken x = new LandTaken();
+        Run x = new Run();
         x.map(3, 3);
         x.field();
         x.cell(1, 1, 0, 0);
@@ -136,19 +136,19 @@ public final class TellTest {
         x.field();
         x.cell(0, 2, 1, 0);
         x.lane(1, 0);
-        Checks.takeNow(x, 1, 0, 0, 2);
+        x.takeNow(1, 0, 0, 2);
         C.due("no WAY by a TAKEN LANE", x.piece(0, 0, 3), 0);
         x.undo();
         C.due("WAY by a LANE given back", x.piece(0, 0, 3), 1);
     }
 
     private static void count() {
-        LandTaken x = new LandTaken();
+        Run x = new Run();
         x.map(3, 2);
         x.field();
         x.field();
-        Checks.row(x, 0, 0, 2, 0, 0);
-        Checks.row(x, 1, 0, 1, 1, 0);
+        x.row(0, 0, 2, 0, 0);
+        x.row(1, 0, 1, 1, 0);
         x.lane(2, 1);
         x.days(3);
         x.rate(4, 0);
@@ -163,7 +163,7 @@ public final class TellTest {
         counts(x, 2, 2, 3, 1, 2, 3, 1, 0);
         x.hear(1, true);
         counts(x, 2, 2, 0, 1, 2, 3, 0, 0);
-        Checks.takeNow(x, 1, 0);
+        x.takeNow(1, 0);
         counts(x, 2, 3, 0, 2, 1, 3, 0, 0);
         x.undo();
         counts(x, 2, 2, 0, 1, 2, 3, 0, 1);
@@ -173,7 +173,7 @@ public final class TellTest {
         C.due("count(-1)", x.count(-1), OUTSIDE);
     }
 
-    private static void counts(LandTaken x, int... want) {
+    private static void counts(Run x, int... want) {
         for (int what = 0; what < 8; what++) {
             C.due("count(" + what + ")", x.count(what), want[what]);
         }
@@ -188,16 +188,16 @@ public final class TellTest {
     }
 
     private static void digestOfANewObject() {
-        C.due("digest() of a new object", new LandTaken().digest(),
+        C.due("digest() of a new object", new Run().digest(),
                 mixed(1, 1, NONE, 0, 0, 0, 0, 0, 0, 0, 0, 28, 0, 0, 0));
     }
 
     private static void digestOfAll() {
-        LandTaken x = new LandTaken();
+        Run x = new Run();
         x.map(3, 2);
         x.field();
         x.field();
-        Checks.row(x, 0, 0, 2, 0, 1);
+        x.row(0, 0, 2, 0, 1);
         x.cell(1, 1, 1, 2);
         x.lane(0, 1);
         x.right(0, 1, 70);
@@ -245,7 +245,7 @@ public final class TellTest {
     }
 
     private static void digestSeesEachChange() {
-        LandTaken x = new LandTaken();
+        Run x = new Run();
         x.map(2, 2);
         long before = x.digest();
         C.due("digest() changes nothing", x.digest(), before);
@@ -253,7 +253,7 @@ public final class TellTest {
         C.due("digest() does not tell PRICES", x.digest(), before);
         x.days(1);
         C.holds("digest() tells THE DAY", x.digest() != before);
-        LandTaken y = new LandTaken();
+        Run y = new Run();
         y.map(2, 2);
         y.days(1);
         C.due("two objects with like calls tell the same", y.digest(), x.digest());
