@@ -12,10 +12,12 @@ public final class MapBoundsTest {
         columnAndRow();
         mapAnew();
         mapAnewIsFullAgain();
+        edgesOfTheLargestMap();
         fieldsTwelveAtMost();
         fieldWithoutCells();
         fieldFullAndShut();
         cellAtTheEdges();
+        cellOfNoneAtFirst();
         cellFieldOrNone();
         cellSoil();
         cellReasons();
@@ -24,6 +26,7 @@ public final class MapBoundsTest {
         laneAtTheEdges();
         laneOfNoField();
         laneHouse();
+        houseNoneAtFirst();
         houseOnItsField();
         houseReasons();
         rightAmounts();
@@ -148,6 +151,9 @@ public final class MapBoundsTest {
         y.cell(0, 0, 0, 0);
         y.right(0, DEBT, 1);
         C.due("no HOUSE and no RIGHTS of an earlier FIELD: digest", x.digest(), y.digest());
+        x.takeNow(0, 0);
+        C.due(x, x.gets(0, 0, 0), 1);
+        C.due(x, "THE OWNER has what an earlier FIELD's RIGHTS would get", x.told(0, 0, 13), 99);
     }
 
     private static void mapAnewIsFullAgain() {
@@ -168,6 +174,35 @@ public final class MapBoundsTest {
         C.due("what the larger map had is gone: digest", x.digest(), y.digest());
     }
 
+    private static void edgesOfTheLargestMap() {
+        C.says("W by H CELLS (1 to 16 each), (x, y) being column x, row y");
+        Run x = new Run();
+        x.map(16, 16);
+        for (int f = 0; f < 12; f++) {
+            x.field();
+        }
+        x.cell(0, 1, 11, 0);
+        x.cell(15, 15, 11, 0);
+        C.refused(x, UNKNOWN, () -> x.house(12, 0, 1));
+        // Taken as 16 y and x, each of these would be a cell of the map.
+        int[] beside = {16, 0, -1, 2, 16, 14, 0, 16, 15, -1, -16, 2, 32, -1};
+        for (int i = 0; i < beside.length; i += 2) {
+            int cx = beside[i];
+            int cy = beside[i + 1];
+            C.refused(x, UNKNOWN, () -> x.cell(cx, cy, 11, 1));
+            C.refused(x, UNKNOWN, () -> x.lane(cx, cy));
+            C.refused(x, UNKNOWN, () -> x.house(11, cx, cy));
+            C.refused(x, UNKNOWN, () -> x.line(cx, cy, true));
+            C.refused(x, UNKNOWN, () -> x.look(cx, cy, 0));
+        }
+        C.due(x, x.house(11, 15, 15), 1);
+        C.due(x, x.house(11, 0, 1), 1);
+        C.due(x, x.line(15, 15, true), 0);
+        C.due(x, x.lane(15, 15), 1);
+        C.due(x, x.cell(15, 15, 0, 3), 1);
+        C.due(x, x.look(15, 15, 1), 3);
+    }
+
     // ---- promise 3
 
     private static void fieldsTwelveAtMost() {
@@ -180,9 +215,11 @@ public final class MapBoundsTest {
             C.due(x, x.pieces(f + 1), UNKNOWN);
         }
         C.refused(x, FULL, x::field);
-        C.refused(x, FULL, x::field);
         C.due(x, x.cell(0, 0, 11, 0), 1);
         C.due(x, x.pieces(11), 1);
+        C.due(x, x.house(11, 0, 0), 1);
+        C.due(x, x.right(11, TENANT, 10), 1);
+        C.refused(x, FULL, x::field);
         x.map(1, 1);
         for (int f = 0; f < 12; f++) {
             C.due(x, x.field(), f);
@@ -236,6 +273,20 @@ public final class MapBoundsTest {
         C.due(x, "its neighbour stays", x.look(2, 0, 0), 0);
     }
 
+    private static void cellOfNoneAtFirst() {
+        C.says("A CELL is of a FIELD or of none (at first)");
+        Run x = new Run();
+        x.map(2, 2);
+        x.field();
+        for (int place = 0; place < 4; place++) {
+            int cx = place % 2;
+            int cy = place / 2;
+            C.due(x, x.look(cx, cy, 0), NONE);
+            C.refused(x, OUTSIDE, () -> x.house(0, cx, cy));
+        }
+        C.due(x, "none became of the new FIELD", x.pieces(0), 0);
+    }
+
     private static void cellFieldOrNone() {
         C.says("A CELL is of FIELD f (or NONE), of a SOIL, and no LANE: 1.");
         Run x = new Run();
@@ -276,7 +327,8 @@ public final class MapBoundsTest {
     }
 
     private static void cellReasons() {
-        C.says("Refusals, of several the first as told by each call");
+        C.says("Refusals, of several the first as told by each call: UNKNOWN (a number names nothing), "
+                + "OUTSIDE (it is not as told), STATE (as told), FULL; they change nothing.");
         for (Stage stage : new Stage[] {Stage.NONE_MADE, Stage.DONE}) {
             Run x = stage.run();
             C.refused(x, UNKNOWN, () -> x.cell(4, 0, 2, 4));
@@ -384,6 +436,23 @@ public final class MapBoundsTest {
 
     // ---- promise 6
 
+    private static void houseNoneAtFirst() {
+        C.says("may have a HOUSE (a CELL of them, none at first)");
+        Run x = new Run();
+        x.map(3, 1);
+        x.field();
+        x.cell(0, 0, 0, 0);
+        x.cell(2, 0, 0, 0);
+        long before = x.digest();
+        C.due(x, "of like ones the first is MAIN", x.piece(0, 0, 2), 1);
+        C.due(x, x.house(0, 0, 0), 1);
+        C.holds("a HOUSE on the first CELL is told", x.digest() != before);
+        C.due(x, x.house(0, 2, 0), 1);
+        C.due(x, x.piece(0, 1, 2), 1);
+        x.cell(2, 0, 0, 0);
+        C.due("none again: digest", x.digest(), before);
+    }
+
     private static void houseOnItsField() {
         C.says("THE HOUSE of a FIELD stands on a CELL of it: 1.");
         Run x = Stage.NONE_MADE.run();
@@ -484,13 +553,16 @@ public final class MapBoundsTest {
     private static void rightsFourAtMost() {
         C.says("RIGHTS (4 at most, in order)");
         Run x = new Run();
+        x.map(12, 1);
+        x.price(0, 0, 1000);
         for (int f = 0; f < 12; f++) {
             x.field();
+            x.cell(f, 0, f, 0);
         }
         for (int f = 0; f < 12; f++) {
             int one = f;
             for (int r = 1; r <= 4; r++) {
-                C.due(x, x.right(f, r % 2 + 1, r), r);
+                C.due(x, x.right(f, 2 - r % 2, 10 + r), r);
             }
             C.refused(x, FULL, () -> x.right(one, DEBT, 5));
             C.refused(x, FULL, () -> x.right(one, TENANT, 5));
@@ -502,6 +574,7 @@ public final class MapBoundsTest {
         Run x = new Run();
         x.field();
         x.cell(0, 0, 0, 0);
+        x.price(0, 0, 100);
         for (int r = 0; r < 4; r++) {
             x.right(0, DEBT, 1);
         }

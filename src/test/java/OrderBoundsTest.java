@@ -41,6 +41,7 @@ public final class OrderBoundsTest {
         undoGivesBack();
         undoOwesDebtsAgain();
         undoSixty();
+        undoLeavesNoCases();
         undoLeavesNothingToTheNext();
         C.end();
     }
@@ -428,7 +429,7 @@ public final class OrderBoundsTest {
     }
 
     private static void objectStates() {
-        C.says("it is OBJECTED to already, ENTERED, STRUCK OUT, or too late");
+        C.says("STATE: no ORDER is MADE and not DONE, it is OBJECTED to already, ENTERED, STRUCK OUT, or too late.");
         Run objected = Stage.OBJECTED.run();
         C.refused(objected, STATE, () -> objected.object(1));
         Run kept = Stage.KEPT.run();
@@ -648,6 +649,13 @@ public final class OrderBoundsTest {
         x.hear(1, true);
         C.due(x, "they stay TAKEN when the other CASE is STRUCK OUT", x.count(1), 3);
         C.due(x, x.look(1, 2, 3), 1);
+        Run last = Stage.MADE.run();
+        last.object(0);
+        last.days(5);
+        last.enter();
+        C.due(last, "whichever CASE is the first to be ENTERED", last.look(1, 2, 3), 1);
+        C.due(last, last.look(3, 1, 3), 1);
+        C.due(last, last.look(1, 0, 3), 0);
     }
 
     private static void doneWhenEachIsOver() {
@@ -718,7 +726,8 @@ public final class OrderBoundsTest {
     }
 
     private static void undoGivesBack() {
-        C.says("CELLS of its CASES are not TAKEN any more (LANES of its LINE, too), what was paid for them is given back");
+        C.says("CELLS of its CASES are not TAKEN any more (LANES of its LINE, too), "
+                + "what was paid for them is given back");
         Run x = Stage.DONE.run();
         C.due("undo(), nothing was paid", x.again().undo(), 0);
         x.days(100);
@@ -801,6 +810,22 @@ public final class OrderBoundsTest {
         x.line(0, 0, true);
         C.due(x, "the number 0 is free again", x.make(), 1);
         C.due(x, x.told(0, 0, 1), NOTICED);
+    }
+
+    private static void undoLeavesNoCases() {
+        C.says("UNKNOWN (a number names nothing)");
+        Run x = Stage.UNDONE.run();
+        x.choose(1, 0);
+        C.due(x, x.make(), 1);
+        C.refused(x, UNKNOWN, () -> x.object(1));
+        C.refused(x, UNKNOWN, () -> x.hear(1, true));
+        C.refused(x, UNKNOWN, () -> x.told(0, 1, 0));
+        C.refused(x, UNKNOWN, () -> x.gets(0, 1, 0));
+        C.refused(x, UNKNOWN, () -> x.pay(0, 1, 1));
+        x.days(5);
+        C.due(x, "the CASE of the ORDER undone does not come back", x.enter(), 1);
+        C.due(x, x.count(6), 0);
+        C.due(x, x.look(1, 1, 3), 0);
     }
 
     private static void undoLeavesNothingToTheNext() {

@@ -192,7 +192,8 @@ public final class PriceBoundsTest {
     // ---- promise 10
 
     private static void rateBounds() {
-        String[] sentences = {"(thousandths of its price, 0 to 1000; 0 at first)", "1 a side of fence (0 to 100000; 0 at first)",
+        String[] sentences = {"0 what is cut off loses (thousandths of its price, 0 to 1000; 0 at first)",
+            "1 a side of fence (0 to 100000; 0 at first)",
             "(thousandths of the price of what stays with the HOUSE, 0 to 1000; 0 at first)",
             "3 interest (millionths a day, 0 to 10000; 0 at first)", "4 days of notice (0 to 1000; 28 at first)"};
         for (int rate = 0; rate < 5; rate++) {

@@ -115,7 +115,8 @@ public final class TellBoundsTest {
     }
 
     private static void pieceWhat() {
-        C.says("Of PIECE i: what = 0 how many CELLS, 1 the first (16 y and x), 2 whether it is MAIN, 3 whether it HAS A WAY.");
+        C.says("Of PIECE i: what = 0 how many CELLS, 1 the first (16 y and x), 2 whether it is MAIN, "
+                + "3 whether it HAS A WAY.");
         Run x = Stage.DONE.run();
         int[][] want = {{1, 16, 1, 1}, {1, 16 + 2, 0, 0}};
         for (int i = 0; i < 2; i++) {
@@ -316,7 +317,7 @@ public final class TellBoundsTest {
     }
 
     private static void digestWraps() {
-        C.says("(as longs, wrapping)");
+        C.says("(as longs, wrapping): W, H; of each CELL, row by row, what look() tells for 0 to 4");
         Run x = new Run();
         x.map(16, 16);
         List<Long> numbers = looked(x);

@@ -152,8 +152,7 @@ final class Watch {
         ask(x -> x.days(999));
         ask(Run::enter);
         ask(Run::digest);
-        ask(Run::undo);
-        ask(Run::digest);
+        takeAll();
     }
 
     private void payAll() {
@@ -175,6 +174,11 @@ final class Watch {
         for (int o = 0; o <= 60 && ask(Run::undo) >= 0; o++) {
             ask(Run::digest);
         }
+        takeAll();
+    }
+
+    /** What each RIGHT gets of all the land tells what is left of the DEBTS. */
+    private void takeAll() {
         for (int place = 0; place < run.wide() * run.high(); place++) {
             int at = place;
             ask(x -> x.line(at % run.wide(), at / run.wide(), true));
@@ -183,11 +187,12 @@ final class Watch {
         ask(x -> x.days(1000));
         ask(Run::enter);
         ask(Run::digest);
+        int latest = (int) ask(x -> x.count(3)) - 1;
         for (int k = 0; k < 12; k++) {
             for (int right = 0; right < 4; right++) {
                 int one = k;
                 int r = right;
-                ask(x -> x.gets(0, one, r));
+                ask(x -> x.gets(latest, one, r));
             }
         }
     }

@@ -630,7 +630,7 @@ public final class WorthBoundsTest {
     }
 
     private static void ownerHasWhatIsLeft() {
-        C.says("THE OWNER all that is left then.");
+        C.says("THE OWNER has what is left.");
         Run none = strip(2, 77);
         none.takeNow(0, 0);
         C.due(none, "no RIGHTS", none.told(0, 0, OWNER), 77);
@@ -651,6 +651,11 @@ public final class WorthBoundsTest {
             C.due(four, four.gets(1, 0, r), then[r]);
         }
         C.due(four, four.told(1, 0, OWNER), 700);
+        C.says("THE OWNER all that is left then.");
+        for (int debt = 76; debt <= 78; debt++) {
+            Run x = withRights(77, DEBT, debt, TENANT, 0);
+            C.due(x, x.told(0, 0, OWNER), Math.max(0, 77 - debt));
+        }
     }
 
     // ---- the greatest sums

@@ -15,7 +15,6 @@ public final class WorthTest {
         betterWithoutAHouse();
         ratesOfTheEntry();
         rightsInOrder();
-        greatest();
         C.end();
     }
 
@@ -290,39 +289,5 @@ public final class WorthTest {
             C.due("gets(" + o + ", 0, " + r + ")", x.gets(o, 0, r), want[r]);
         }
         C.due("told(" + o + ", 0, 13)", x.told(o, 0, 13), owner);
-    }
-
-    /** The greatest sums: a chessboard of all cells, the dearest prices and rates, 10000 days of interest. */
-    private static void greatest() {
-        Run x = new Run();
-        x.map(16, 16);
-        x.field();
-        for (int place = 0; place < 256; place++) {
-            x.cell(place % 16, place / 16, 0, 3);
-        }
-        x.right(0, 2, 1000);
-        x.price(3, 0, 100000);
-        x.rate(0, 1000);
-        x.rate(1, 100000);
-        x.rate(3, 10000);
-        x.rate(4, 0);
-        for (int place = 0; place < 256; place++) {
-            if ((place % 16 + place / 16) % 2 == 1) {
-                x.line(place % 16, place / 16, true);
-            }
-        }
-        x.make();
-        x.enter();
-        C.due("pieces(0)", x.pieces(0), 128);
-        C.due("piece(0, 127, 1)", x.piece(0, 127, 1), 255);
-        C.due("piece(0, 0, 2)", x.piece(0, 0, 2), 1);
-        told(x, 0, 0, 12800000, 12700000, 48000000, 0, 73500000);
-        C.due("gets(0, 0, 0)", x.gets(0, 0, 0), 73500000);
-        for (int i = 0; i < 10; i++) {
-            x.days(1000);
-        }
-        C.due("INTEREST", x.told(0, 0, 10), 7350000000L);
-        C.due("pay", x.pay(0, 0, 1000000000), 1000000000);
-        C.due("INTEREST left", x.told(0, 0, 10), 6350000000L);
     }
 }
