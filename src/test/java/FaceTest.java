@@ -126,7 +126,7 @@ public final class FaceTest {
         x.rate(4, 0);
         long thread = Thread.currentThread().getId();
         long before = bean.getThreadAllocatedBytes(thread);
-        for (int i = 0; i < 60; i++) {
+        for (int i = 0; i < 30; i++) {
             for (int f = 0; f < 12; f++) {
                 x.line(f, 0, true);
             }
