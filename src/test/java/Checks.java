@@ -21,11 +21,12 @@ final class Checks {
         this.document = documentText();
     }
 
+    /** Empty, if there is none to be read: then every sentence that a test quotes is missing in it, and told. */
     private static String documentText() {
         try {
-            return Files.exists(DOCUMENT) ? Files.readString(DOCUMENT) : null;
+            return Files.readString(DOCUMENT);
         } catch (IOException e) {
-            return null;
+            return "";
         }
     }
 
@@ -33,7 +34,7 @@ final class Checks {
     void says(String words) {
         sentence = words;
         sentences++;
-        if (document != null && !document.contains(words)) {
+        if (!document.contains(words)) {
             wrong++;
             tell("the document does not say this");
         }

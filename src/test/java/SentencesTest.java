@@ -18,10 +18,6 @@ public final class SentencesTest {
     private static final int SHORTEST_QUOTE = 9;
 
     public static void main(String[] args) throws IOException {
-        if (!Files.exists(DOCUMENT)) {
-            System.out.println("SentencesTest: no document at " + DOCUMENT);
-            return;
-        }
         String promised = promised(Files.readString(DOCUMENT));
         boolean[] isQuoted = quotedPlaces(promised, quotes());
         Matcher bound = BOUND.matcher(promised);
